@@ -110,7 +110,7 @@ public final class StatuteBench {
     private final Bytes written;
     private final Code code;
     private final Grammar grammar;
-    private Testimony[] testimonies;
+    private final Testimony[] testimonies;
     private int testimonyCount;
     private int day;
     private int faultPlace;
@@ -121,6 +121,7 @@ public final class StatuteBench {
         written = new Bytes();
         code = new Code();
         grammar = new Grammar(code);
+        testimonies = new Testimony[MOST_TESTIMONIES];
         faultPlace = NONE;
     }
 
@@ -147,7 +148,11 @@ public final class StatuteBench {
     public int read() {
         grammar.begin(tape, day);
         for (int i = 0; i <= MOST_TOKENS && grammar.goesOn(); i++) {
-            grammar.tell();
+            if (grammar.isAtRule()) {
+                grammar.tellRule();
+            } else {
+                grammar.tell();
+            }
         }
         int fault = grammar.finish();
         faultPlace = grammar.placeOfFault();
@@ -173,9 +178,6 @@ public final class StatuteBench {
         boolean rightWeight = weight >= 1 && weight <= MOST_WEIGHT;
         if (literal == NONE || !rightTime || !rightWeight || testimonyCount >= MOST_TESTIMONIES) {
             return NONE;
-        }
-        if (testimonies == null) {
-            testimonies = new Testimony[MOST_TESTIMONIES];
         }
         testimonies[testimonyCount] = new Testimony(literal, from, until, weight, day);
         testimonyCount++;
@@ -425,10 +427,6 @@ public final class StatuteBench {
             }
         }
 
-        int kindAt(int i) {
-            return i >= 0 && i < size ? kinds[i] : NO_TOKEN;
-        }
-
         int startAt(int i) {
             return i >= 0 && i < size ? starts[i] : NONE;
         }
@@ -556,9 +554,13 @@ public final class StatuteBench {
         private final int[] overTokens = new int[MOST_OVERS];
         private int variableCount;
         private int overCount;
-        private int at;
         private int made;
         private boolean lawIsOpen;
+        // The token that stands next: its number, kind, place and value; behind a stop there is none.
+        private int at;
+        private int kind;
+        private int here;
+        private long value;
         // A stop (syntax, room) ends the reading; a flaw (twice, unknown, wrong) counts only without a stop.
         private int stop;
         private int stopPlace;
@@ -571,7 +573,6 @@ public final class StatuteBench {
 
         void begin(Bytes tape, int day) {
             tokens.scan(tape);
-            at = 0;
             made = day;
             overCount = 0;
             lawIsOpen = false;
@@ -579,22 +580,22 @@ public final class StatuteBench {
             stopPlace = NONE;
             flaw = 0;
             flawPlace = NONE;
+            lookAt(0);
         }
 
         boolean goesOn() {
-            return stop == 0 && (lawIsOpen || kind() != TEXT_END);
+            return stop == 0 && (lawIsOpen || kind != TEXT_END);
         }
 
-        /** Reads a TELL, or of a law its head, one of its rules, or its end. */
+        boolean isAtRule() {
+            return lawIsOpen && (kind == RULE || kind == BAR || kind == TAKE);
+        }
+
+        /** Reads a TELL, of a law its head alone, or the end of a law. */
         void tell() {
-            int kind = kind();
             if (lawIsOpen) {
-                if (kind == RULE || kind == BAR || kind == TAKE) {
-                    tellRule(kind);
-                } else {
-                    expect(END);
-                    lawIsOpen = false;
-                }
+                expect(END);
+                lawIsOpen = false;
                 return;
             }
             switch (kind) {
@@ -605,6 +606,39 @@ public final class StatuteBench {
                 case OVER: tellOver(); break;
                 default: stopAt(SYNTAX); break;
             }
+        }
+
+        void tellRule() {
+            int told = kind;
+            variableCount = 0;
+            expect(told);
+            Rule rule = code.newRule(tellName(code.rules), told - RULE);
+            if (rule == null) {
+                return;
+            }
+            expect(':');
+            boolean goesOn = kind != ARROW;
+            // One more than the most is tried, since that one is the fault.
+            for (int i = 0; i <= MOST_CONDITIONS && goesOn; i++) {
+                Condition condition = startCondition(rule);
+                if (condition == null) {
+                    return;
+                }
+                switch (kind) {
+                    case IF: comparison(condition); break;
+                    case SAME: case OTHER: likeness(condition); break;
+                    default: literal(condition); break;
+                }
+                goesOn = skip(',');
+            }
+            expect(ARROW);
+            if (told == TAKE) {
+                takeHead(rule.head);
+            } else {
+                literal(rule.head);
+            }
+            expect(';');
+            rule.variables = variableCount;
         }
 
         /** Keeps what was told, or drops it all: the number of the fault, or 0. */
@@ -626,28 +660,31 @@ public final class StatuteBench {
             return stop != 0 ? stopPlace : flawPlace;
         }
 
-        private int kind() {
-            return stop != 0 ? NO_TOKEN : tokens.kindAt(at);
+        private void lookAt(int token) {
+            boolean there = token >= 0 && token < tokens.size;
+            at = token;
+            kind = there ? tokens.kinds[token] : NO_TOKEN;
+            here = there ? tokens.starts[token] : NONE;
+            value = there ? tokens.values[token] : 0;
         }
 
         private void stopAt(int fault) {
             if (stop == 0) {
                 stop = fault;
-                stopPlace = tokens.startAt(at);
+                stopPlace = here;
+                kind = NO_TOKEN;
             }
         }
 
-        private void note(int fault, int token) {
-            int place = tokens.startAt(token);
-            boolean first = flaw == 0 || place < flawPlace || place == flawPlace && fault < flaw;
-            if (first) {
+        private void note(int fault, int place) {
+            if (flaw == 0 || place < flawPlace || place == flawPlace && fault < flaw) {
                 flaw = fault;
                 flawPlace = place;
             }
         }
 
         private boolean expect(int wanted) {
-            if (kind() != wanted) {
+            if (kind != wanted) {
                 stopAt(SYNTAX);
                 return false;
             }
@@ -655,51 +692,48 @@ public final class StatuteBench {
                 stopAt(ROOM);
                 return false;
             }
-            at++;
+            lookAt(at + 1);
             return true;
         }
 
         private boolean skip(int wanted) {
-            return kind() == wanted && expect(wanted);
+            return kind == wanted && expect(wanted);
         }
 
         private int integer(int least, int most) {
-            int token = at;
+            int place = here;
+            int told = (int) value;
             if (!expect(INTEGER)) {
                 return least;
             }
-            int value = (int) tokens.valueAt(token);
-            if (value < least || value > most) {
-                note(WRONG, token);
+            if (told < least || told > most) {
+                note(WRONG, place);
                 return least;
             }
-            return value;
+            return told;
         }
 
         /** Adds the NAME that stands here, even one told already: it takes room all the same. */
         private int tellName(Roll roll) {
-            if (kind() == NAME && roll.isFull()) {
+            if (kind == NAME && roll.isFull()) {
                 stopAt(ROOM);
             }
-            int token = at;
+            int place = here;
+            long name = value;
             if (!expect(NAME)) {
                 return NONE;
             }
-            long name = tokens.valueAt(token);
             if (roll.find(name) != NONE) {
-                note(TWICE, token);
+                note(TWICE, place);
             }
             return roll.add(name);
         }
 
         private int knownName(Roll roll) {
-            int token = at;
-            if (!expect(NAME)) {
-                return NONE;
-            }
-            int found = roll.find(tokens.valueAt(token));
-            if (found == NONE) {
-                note(UNKNOWN, token);
+            int place = here;
+            int found = roll.find(value);
+            if (expect(NAME) && found == NONE) {
+                note(UNKNOWN, place);
             }
             return found;
         }
@@ -731,14 +765,14 @@ public final class StatuteBench {
         }
 
         private void tellOver() {
-            if (code.overs + overCount >= MOST_OVERS || overCount >= MOST_OVERS) {
+            if (code.overs + overCount >= MOST_OVERS) {
                 stopAt(ROOM);
             }
             expect(OVER);
             int token = at;
             expect(NAME);
             expect(NAME);
-            if (expect(';')) {
+            if (expect(';') && overCount < MOST_OVERS) {
                 overTokens[overCount] = token;
                 overCount++;
             }
@@ -747,74 +781,41 @@ public final class StatuteBench {
         private void resolveOver(int token) {
             int first = code.rules.find(tokens.valueAt(token));
             int second = code.rules.find(tokens.valueAt(token + 1));
-            noteRule(first, token);
-            noteRule(second, token + 1);
-            if (first != NONE && first == second) {
-                note(WRONG, token + 1);
+            noteRule(first, tokens.startAt(token));
+            noteRule(second, tokens.startAt(token + 1));
+            if (first == second && first != NONE) {
+                note(WRONG, tokens.startAt(token + 1));
             }
             code.addOver(first, second);
         }
 
-        private void noteRule(int rule, int token) {
+        private void noteRule(int rule, int place) {
             if (rule == NONE) {
-                note(UNKNOWN, token);
+                note(UNKNOWN, place);
             } else if (!code.isRanked(rule)) {
-                note(WRONG, token);
+                note(WRONG, place);
             }
         }
 
-        private void tellRule(int kind) {
-            variableCount = 0;
-            expect(kind);
-            Rule rule = code.newRule(tellName(code.rules), kind - RULE);
-            if (rule == null) {
-                return;
-            }
-            expect(':');
-            if (kind() != ARROW) {
-                condition(rule);
-                // One more than the most is tried, since that one is the fault.
-                for (int i = 0; i < MOST_CONDITIONS && skip(','); i++) {
-                    condition(rule);
-                }
-            }
-            expect(ARROW);
-            if (kind == TAKE) {
-                takeHead(rule.head);
-            } else {
-                literal(rule.head);
-            }
-            expect(';');
-            rule.variables = variableCount;
-        }
-
-        private void condition(Rule rule) {
-            int kind = kind();
-            if (kind != NAME && kind != NOT && kind != SAME && kind != OTHER && kind != IF) {
-                stopAt(SYNTAX);
-                return;
+        /** A place for the condition that stands here; null, and a stop, if there is none or no room. */
+        private Condition startCondition(Rule rule) {
+            switch (kind) {
+                case NAME: case NOT: case SAME: case OTHER: case IF: break;
+                default:
+                    stopAt(SYNTAX);
+                    return null;
             }
             Condition condition = rule.newCondition();
             if (condition == null) {
                 stopAt(ROOM);
-                return;
             }
-            if (kind == IF) {
-                comparison(condition);
-            } else if (kind == SAME || kind == OTHER) {
-                expect(kind);
-                condition.kind = kind;
-                condition.first = term();
-                condition.second = term();
-            } else {
-                literal(condition);
-            }
+            return condition;
         }
 
         private void literal(Condition condition) {
             condition.kind = NAME;
             condition.so = !skip(NOT);
-            int token = at;
+            int place = here;
             int word = knownName(code.words);
             int terms = 0;
             condition.subject = word;
@@ -830,8 +831,15 @@ public final class StatuteBench {
                 expect(')');
             }
             if (word != NONE && code.placesOf(word) != terms) {
-                note(WRONG, token);
+                note(WRONG, place);
             }
+        }
+
+        private void likeness(Condition condition) {
+            condition.kind = kind;
+            expect(kind);
+            condition.first = term();
+            condition.second = term();
         }
 
         private void comparison(Condition condition) {
@@ -839,7 +847,7 @@ public final class StatuteBench {
             condition.start = code.programSize;
             formula(0);
             condition.middle = code.programSize;
-            condition.kind = kind();
+            condition.kind = kind;
             switch (condition.kind) {
                 case EQUAL: case UNLIKE: case '<': case AT_MOST: expect(condition.kind); break;
                 default: stopAt(SYNTAX); break;
@@ -854,7 +862,7 @@ public final class StatuteBench {
             expect('(');
             head.first = term();
             expect(')');
-            head.kind = kind();
+            head.kind = kind;
             switch (head.kind) {
                 case '+': case '*': case MOST: case LEAST: expect(head.kind); break;
                 default: stopAt(SYNTAX); break;
@@ -866,59 +874,61 @@ public final class StatuteBench {
 
         /** A term is a person's number, or MOST_PERSONS and the number of a variable. */
         private int term() {
-            if (kind() == VARIABLE) {
-                return variable();
+            int place = here;
+            if (kind == VARIABLE) {
+                int variable = variableNumber((int) value);
+                if (variable == NONE) {
+                    stopAt(ROOM);
+                }
+                expect(VARIABLE);
+                return MOST_PERSONS + Math.max(0, variable);
             }
-            return Math.max(0, knownName(code.persons));
+            int person = code.persons.find(value);
+            if (expect(NAME) && person == NONE) {
+                note(UNKNOWN, place);
+            }
+            return Math.max(0, person);
         }
 
-        private int variable() {
-            int letter = (int) tokens.valueAt(at);
-            int found = 0;
-            while (found < variableCount && variables[found] != letter) {
-                found++;
+        private int variableNumber(int letter) {
+            for (int i = 0; i < variableCount; i++) {
+                if (variables[i] == letter) {
+                    return i;
+                }
             }
-            if (found >= MOST_VARIABLES) {
-                stopAt(ROOM);
-                return 0;
+            if (variableCount >= MOST_VARIABLES) {
+                return NONE;
             }
-            if (found == variableCount) {
-                variables[found] = letter;
-                variableCount++;
-            }
-            expect(VARIABLE);
-            return MOST_PERSONS + found;
+            variables[variableCount] = letter;
+            variableCount++;
+            return variableCount - 1;
         }
 
+        /** Adds the steps of an E in the order in which they are worked out. */
         private void formula(int depth) {
-            boolean negative = skip('-');
-            product(depth);
-            if (negative) {
-                code.addStep(NEGATE, 0);
-            }
-            for (int i = 0; i < MOST_TOKENS && (kind() == '+' || kind() == '-'); i++) {
-                int operation = kind() == '+' ? ADD : SUBTRACT;
-                expect(kind());
-                product(depth);
-                code.addStep(operation, 0);
-            }
-        }
-
-        private void product(int depth) {
-            unit(depth);
-            for (int i = 0; i < MOST_TOKENS && skip('*'); i++) {
+            int waiting = skip('-') ? NEGATE : NONE;
+            boolean goesOn = true;
+            for (int i = 0; i < MOST_TOKENS && goesOn; i++) {
                 unit(depth);
-                code.addStep(MULTIPLY, 0);
+                for (int j = 0; j < MOST_TOKENS && skip('*'); j++) {
+                    unit(depth);
+                    code.addStep(MULTIPLY, 0);
+                }
+                if (waiting != NONE) {
+                    code.addStep(waiting, 0);
+                }
+                waiting = kind == '+' ? ADD : SUBTRACT;
+                goesOn = skip('+') || skip('-');
             }
         }
 
         private void unit(int depth) {
-            if (kind() == INTEGER) {
+            if (kind == INTEGER) {
                 code.addStep(PUSH, integer(0, MOST_NUMBER));
                 if (skip('/')) {
                     code.addStep(DIVIDE, integer(1, MOST_NUMBER));
                 }
-            } else if (kind() == '(') {
+            } else if (kind == '(') {
                 if (depth >= MOST_BRACKETS) {
                     stopAt(ROOM);
                     return;
@@ -1283,11 +1293,8 @@ public final class StatuteBench {
             switch (condition.kind) {
                 case SAME: return personOf(condition.first) == personOf(condition.second);
                 case OTHER: return personOf(condition.first) != personOf(condition.second);
-                default: return compares(condition);
+                default: break;
             }
-        }
-
-        private boolean compares(Condition condition) {
             left.copy(work(condition.start, condition.middle));
             Fraction right = work(condition.middle, condition.end);
             if (left.broken || right.broken) {

@@ -57,14 +57,19 @@ final class Due {
     /** A bench that has read the text, which is due to have no fault. */
     static StatuteBench bench(String text) {
         StatuteBench bench = new StatuteBench();
-        is("read of " + text, read(bench, text), 0);
+        is("read of " + shortened(text), read(bench, text), 0);
         return bench;
     }
 
     /** The fault of a text, with what a bench has read ahead of it. */
     static void fault(StatuteBench bench, String text, int fault, int place) {
-        is("read of " + text, read(bench, text), fault);
-        is("place of " + text, bench.place(), place);
+        is("read of " + shortened(text), read(bench, text), fault);
+        is("place of " + shortened(text), bench.place(), place);
+    }
+
+    private static String shortened(String text) {
+        int length = text.length();
+        return length <= 300 ? text : text.substring(0, 100) + " .. " + text.substring(length - 100);
     }
 
     static void fault(String text, int fault, int place) {
