@@ -1701,12 +1701,15 @@ public final class StatuteBench {
         private boolean isProved(int literal) {
             int helpers = applied[literal] & proving;
             int attackers = living[literal ^ 1];
-            for (int s = 0; s < MOST_RULES; s++) {
+            if (helpers == 0) {
+                return false;
+            }
+            for (int s = 0; s < MOST_RULES && attackers >> s != 0; s++) {
                 if ((attackers >> s & 1) == 1 && (betters[s] & helpers) == 0) {
                     return false;
                 }
             }
-            return helpers != 0;
+            return true;
         }
 
         private boolean isRefuted(int literal) {
@@ -1714,7 +1717,7 @@ public final class StatuteBench {
                 return true;
             }
             int attackers = applied[literal ^ 1];
-            for (int s = 0; s < MOST_RULES; s++) {
+            for (int s = 0; s < MOST_RULES && attackers >> s != 0; s++) {
                 if ((attackers >> s & 1) == 1 && prevails(s, literal)) {
                     return true;
                 }
