@@ -197,35 +197,42 @@ public final class StatuteBench {
         if (!isDay(k) || !isDay(e)) {
             return NONE;
         }
-        if (judgment == null) {
-            judgment = new Judgment(code);
+        Judgment now = judgment == null ? new Judgment(code) : judgment;
+        judgment = now;
+        now.begin();
+        for (int i = 0; i < testimonyCount; i++) {
+            now.hear(testimonies[i], k, e);
         }
-        judgment.begin();
-        hearAll(k, e);
-        judgment.findFacts();
+        now.findFacts();
         for (int r = 0; r < code.rules.size; r++) {
-            judgment.gather(r, k, e);
+            now.gather(r, k, e);
         }
         // Each round but the last settles a literal at least.
         boolean goesOn = true;
         for (int i = 0; i <= LITERALS && goesOn; i++) {
-            judgment.settleInstances();
-            goesOn = judgment.settleLiterals();
+            now.settleInstances();
+            goesOn = now.settleLiterals();
         }
-        judgment.explain();
+        now.explain();
         for (int cell = 0; cell < CELLS; cell++) {
-            judgment.reckon(cell);
+            now.reckon(cell);
         }
-        return judgment.tallies[PROVED];
+        return now.tallies[PROVED];
     }
 
     public int status(int word, boolean so, int a, int b) {
-        int literal = judgedLiteral(word, so, a, b);
+        if (judgment == null) {
+            return NONE;
+        }
+        int literal = judgment.find(word, so, a, b);
         return literal == NONE ? NONE : judgment.marks[literal];
     }
 
     public int why(int word, boolean so, int a, int b, int what) {
-        int literal = judgedLiteral(word, so, a, b);
+        if (judgment == null) {
+            return NONE;
+        }
+        int literal = judgment.find(word, so, a, b);
         return literal == NONE ? NONE : judgment.reason(literal, what);
     }
 
@@ -299,19 +306,6 @@ public final class StatuteBench {
 
     private static boolean isDay(int d) {
         return d >= 0 && d <= LAST_DAY;
-    }
-
-    private void hearAll(int known, int event) {
-        for (int i = 0; i < testimonyCount; i++) {
-            judgment.hear(testimonies[i], known, event);
-        }
-    }
-
-    private int judgedLiteral(int word, boolean so, int a, int b) {
-        if (judgment == null) {
-            return NONE;
-        }
-        return code.literal(word, so, a, b, judgment.words, judgment.persons);
     }
 
     private int judgedTally(int which) {
@@ -1188,6 +1182,10 @@ public final class StatuteBench {
             this.weight = weight;
             this.told = told;
         }
+
+        boolean counts(int known, int event) {
+            return told <= known && from <= event && event < until;
+        }
     }
 
     /** A fraction in lowest terms; once it is broken, all that is reckoned with it is. */
@@ -1438,7 +1436,7 @@ public final class StatuteBench {
         }
 
         void hear(Testimony testimony, int known, int event) {
-            if (testimony.told <= known && testimony.from <= event && event < testimony.until) {
+            if (testimony != null && testimony.counts(known, event)) {
                 weights[testimony.literal] += testimony.weight;
             }
         }
@@ -1532,6 +1530,11 @@ public final class StatuteBench {
             Fraction total = reckoner.finishSum();
             parts[cell * 2] = total.broken ? 0 : total.upper;
             parts[cell * 2 + 1] = total.broken ? 0 : total.lower;
+        }
+
+        /** The number of a literal of what was told when it was judged, or NONE. */
+        int find(int word, boolean so, int a, int b) {
+            return code.literal(word, so, a, b, words, persons);
         }
 
         int reason(int literal, int what) {
@@ -1641,7 +1644,7 @@ public final class StatuteBench {
         private boolean plainConditionsHold(Rule rule) {
             for (int i = 0; i < rule.size; i++) {
                 Condition condition = rule.conditions[i];
-                if (condition.kind != NAME && !reckoner.holds(condition)) {
+                if (condition != null && condition.kind != NAME && !reckoner.holds(condition)) {
                     return false;
                 }
             }
@@ -1679,10 +1682,14 @@ public final class StatuteBench {
 
         private int stateOf(int key) {
             Rule rule = bound(key);
+            if (rule == null) {
+                return DISCARDED;
+            }
             int state = APPLICABLE;
-            for (int i = 0; rule != null && i < rule.size; i++) {
+            for (int i = 0; i < rule.size; i++) {
                 Condition condition = rule.conditions[i];
-                int mark = condition.kind == NAME ? marks[reckoner.literalOf(condition)] : PROVED;
+                boolean isLiteral = condition != null && condition.kind == NAME;
+                int mark = isLiteral ? marks[reckoner.literalOf(condition)] : PROVED;
                 if (mark == REFUTED) {
                     return DISCARDED;
                 }

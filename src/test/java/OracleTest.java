@@ -22,6 +22,9 @@ public final class OracleTest {
         for (int seed = 0; seed < 40 * scale; seed++) {
             fullRun(seed);
         }
+        for (int seed = 0; seed < 60 * scale; seed++) {
+            strangeRun(seed);
+        }
         Due.end();
     }
 
@@ -146,5 +149,19 @@ public final class OracleTest {
         pair.askJudgment();
         pair.askTexts();
         pair.askCode();
+    }
+
+    /** Calls in any order, with arguments that are often none. */
+    private static void strangeRun(int seed) {
+        Random random = new Random(seed);
+        Pair pair = new Pair("strange run " + seed);
+        TextMaker maker = new TextMaker(random, 0);
+        for (int i = 0; i < 512; i++) {
+            if (random.nextInt(60) == 0 && pair.count(8) == 0) {
+                maker.settle(pair.read(TextMaker.write(someTokens(maker, random), random)) == 0);
+            } else {
+                pair.strangeCall(random);
+            }
+        }
     }
 }

@@ -48,6 +48,12 @@ public final class TextTest {
             + "take t: => s(a) + 999999/1000 * 1/1000; take u: => s(a) + 10; end");
         parts.judge(0, 0);
         Due.is("both parts", Due.judgment(parts), "s(a) 10999999/1000000\n");
+        for (int value : new int[] {0, 1, 9, 10, 90, 99, 100, 909000, 999999, -1, -9, -10, -999999}) {
+            StatuteBench whole = Due.bench("person a; sum s; law l rank 0 from 0; take t: => s(a) + a.0; end");
+            whole.number(0, 0, value);
+            whole.judge(0, 0);
+            Due.is("a whole number", Due.judgment(whole), "s(a) " + value + "\n");
+        }
     }
 
     private static void whatStays() {

@@ -124,6 +124,39 @@ final class Pair {
         }
     }
 
+    /** One call with small or strange arguments. */
+    void strangeCall(java.util.Random random) {
+        int[] x = new int[7];
+        for (int i = 0; i < x.length; i++) {
+            int[] strange = {Integer.MIN_VALUE, Integer.MAX_VALUE, -1, 999999, 1000000, -999999, 4000, random.nextInt()};
+            x[i] = random.nextInt(4) == 0 ? strange[random.nextInt(strange.length)] : random.nextInt(8) - 1;
+        }
+        boolean so = random.nextBoolean();
+        int sort = random.nextInt(15);
+        tell("strange " + sort + " " + so + " " + java.util.Arrays.toString(x));
+        switch (sort) {
+            case 0 -> feed(x[0], x[1], x[2], x[3], x[4]);
+            case 1 -> back(x[0]);
+            case 2 -> same("read", bench.read(), oracle.read());
+            case 3 -> same("place", bench.place(), oracle.place());
+            case 4 -> clock(random.nextInt(20) == 0 ? x[0] : oracle.count(7) + Math.min(x[0], 3));
+            case 5 -> testify(x[0], so, new int[] {x[1], x[2]}, x[3], x[4], x[5]);
+            case 6 -> number(x[0], x[1], x[2]);
+            case 7 -> judge(x[0], x[1]);
+            case 8 -> askLiteral(x[0], so, x[1], x[2]);
+            case 9 -> same("why", bench.why(x[0], so, x[1], x[2], x[3]), oracle.why(x[0], so, x[1], x[2], x[3]));
+            case 10 -> same("sum", bench.sum(x[0], x[1], x[2]), oracle.sum(x[0], x[1], x[2]));
+            case 11 -> same("text", bench.text(), oracle.text());
+            case 12 -> same("out", bench.out(x[0]), oracle.out(x[0]));
+            case 13 -> same("above", bench.above(x[0], x[1]), oracle.above(x[0], x[1]));
+            default -> {
+                same("rule", bench.rule(x[0], x[1]), oracle.rule(x[0], x[1]));
+                same("law", bench.law(x[0], x[1]), oracle.law(x[0], x[1]));
+                same("count", bench.count(x[0]), oracle.count(x[0]));
+            }
+        }
+    }
+
     int count(int what) {
         return oracle.count(what);
     }
