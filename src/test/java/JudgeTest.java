@@ -15,6 +15,7 @@ public final class JudgeTest {
         circles();
         conditions();
         breaks();
+        deepAndManyFormulas();
         reasons();
         reasonsOfRefuted();
         whatIsToldLater();
@@ -266,6 +267,31 @@ public final class JudgeTest {
         holds("p.0 * 1000 + 1001 != 0", 0);
         holds("p.0 + p.1 == 0", 1);
         holds("500000 * 2000/3 * 3/1 != 0", 1);
+    }
+
+    private static void deepAndManyFormulas() {
+        // Eight brackets, and on each level a sum and a product that wait.
+        holds(Due.repeat("1 + 2 * (", 8) + "1 + 2 * 3/2" + Due.repeat(")", 8) + " == 1279", 1);
+        holds(Due.repeat("1 - 1 * (", 8) + "-1 * 1 * 1" + Due.repeat(")", 8) + " == -1", 1);
+        StringBuilder text = new StringBuilder("person p; word w 0; sum s; law l rank 0 from 0; ");
+        for (int i = 0; i < 15; i++) {
+            text.append("rule r").append(i).append(": if 1+1==2, if 2*3-1==5, if 1<").append(i + 2).append(" => w; ");
+            text.append("take t").append(i).append(": if p.0==").append(i * i).append("/").append(i + 1);
+            text.append("=>s(p)+1/").append(i + 1).append("; ");
+        }
+        StatuteBench bench = Due.bench(text + "end");
+        bench.judge(0, 0);
+        Due.is("all hold, and one take of fifteen", bench.count(12), 16);
+        Due.is("that one", bench.sum(0, 0, 0), 1);
+        Due.fault(bench, "law m rank 0 from 0; take z: if 7 == 7, if 0 == p.3 => s(p) + 2 * 3; end", 2, 26);
+        bench.number(0, 0, 49);
+        bench.judge(0, 0);
+        Due.is("none", bench.sum(0, 0, 2), 0);
+        StatuteBench one = Due.bench("person p; sum s; law m rank 0 from 0; take z: if 7 == 7 => s(p) + 2 * 3; end");
+        Due.fault(one, "law k rank 0 from 0; take y: if 7 == 7 => s(p) + 2 * 4; take y: => s(p) + 1; end", 3, 61);
+        Due.fault(one, "law k rank 0 from 0; take y: if 0 == p.0 => s(p) + 2 * 5; end", 0, -1);
+        one.judge(0, 0);
+        Due.is("formulas behind a text with a fault", one.sum(0, 0, 0), 16);
     }
 
     private static void reasons() {
