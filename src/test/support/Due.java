@@ -2,15 +2,21 @@
 final class Due {
     private static int wrong = 0;
     private static int asked = 0;
+    private static String sentence = "";
 
     private Due() {
+    }
+
+    /** The sentence of the document that the answers behind this are due by. */
+    static void by(String words) {
+        sentence = "[" + words + "] ";
     }
 
     static void is(String what, long got, long want) {
         asked++;
         if (got != want) {
             wrong++;
-            System.out.println(what + " answered " + got + ", due is " + want);
+            System.out.println(sentence + what + " answered " + got + ", due is " + want);
         }
     }
 
@@ -22,7 +28,7 @@ final class Due {
         asked++;
         if (!got.equals(want)) {
             wrong++;
-            System.out.println(what + " answered [" + got + "], due is [" + want + "]");
+            System.out.println(sentence + what + " answered [" + got + "], due is [" + want + "]");
         }
     }
 
