@@ -334,9 +334,8 @@ public final class EdgesOfCallsTest {
         for (int[] t : taken) {
             takenTestimony(0, 0, 0, new int[] {t[0], t[1], 1});
         }
-        int[][] refused = {{-1, 1}, {-1, 1000000}, {0, 0}, {8, 8}, {9, 8}, {0, 1000001}, {1000000, 1000001}, {1000000,
-            1000000},
-            {0, MAX}, {0, MIN}, {MIN, MAX}, {MIN, MIN}, {MAX, MIN}, {MAX, MAX}, {-2, -1}, {0, -1}};
+        int[][] refused = {{-1, 1}, {-1, 1000000}, {0, 0}, {8, 8}, {9, 8}, {0, 1000001}, {1000000, 1000001},
+            {1000000, 1000000}, {0, MAX}, {0, MIN}, {MIN, MAX}, {MIN, MIN}, {MAX, MIN}, {MAX, MAX}, {-2, -1}, {0, -1}};
         for (int[] t : refused) {
             refusedTestimony(0, 0, 0, new int[] {t[0], t[1], 1});
         }
@@ -445,8 +444,8 @@ public final class EdgesOfCallsTest {
         }
         for (int word = 0; word < 3; word++) {
             for (int person = 0; person < 3; person++) {
-                all.append(' ').append(bench.status(word, true, person, 0)).append(' ').append(bench.status(word, false,
-                    0, person));
+                all.append(' ').append(bench.status(word, true, person, 0));
+                all.append(' ').append(bench.status(word, false, 0, person));
                 for (int what = 0; what <= 4; what++) {
                     all.append(' ').append(bench.why(word, true, person, 0, what));
                 }
@@ -516,8 +515,7 @@ public final class EdgesOfCallsTest {
             Due.is("one PLACE: a is " + strange, bench.status(1, true, strange, 0), NONE);
             Due.is("two PLACES: a is " + strange, bench.status(2, false, strange, 0), NONE);
             Due.is("two PLACES: b is " + strange, bench.status(2, true, 0, strange), NONE);
-            Due.is("no PLACES: a, b are " + strange, bench.status(0, true, strange, strange), bench.status(0, true, 0,
-                0));
+            Due.is("no PLACES: a, b are " + strange, bench.status(0, true, strange, strange), 0);
             Due.is("one PLACE: b is " + strange, bench.status(1, true, 1, strange), 1);
         }
     }
@@ -562,8 +560,7 @@ public final class EdgesOfCallsTest {
             Due.is("one PLACE: a is " + strange, bench.why(1, true, strange, 0, 0), NONE);
             Due.is("two PLACES: a is " + strange, bench.why(2, false, strange, 0, 0), NONE);
             Due.is("two PLACES: b is " + strange, bench.why(2, true, 0, strange, 0), NONE);
-            Due.is("no PLACES: a, b are " + strange, bench.why(0, true, strange, strange, 0), bench.why(0, true, 0, 0,
-                0));
+            Due.is("no PLACES: a, b are " + strange, bench.why(0, true, strange, strange, 0), 1);
             Due.is("one PLACE: b is " + strange, bench.why(1, true, 1, strange, 0), 0);
         }
     }
@@ -732,8 +729,8 @@ public final class EdgesOfCallsTest {
             rest.append("bar b").append(i).append(": => w; ");
         }
         Due.is("read", Due.read(bench, rest + "end law n rank 1 from 0 until 1; end"), 0);
-        int[][] due = {{0, 0, 0, NONE, 0}, {9, 0, 999998, 999999, 1}, {5, LAST_DAY, LAST_DAY, NONE, 29}, {1, LAST_DAY,
-            0, 1, 0}};
+        int[][] due = {{0, 0, 0, NONE, 0}, {9, 0, 999998, 999999, 1}, {5, LAST_DAY, LAST_DAY, NONE, 29},
+            {1, LAST_DAY, 0, 1, 0}};
         for (int l = 0; l < due.length; l++) {
             for (int what = 0; what <= 4; what++) {
                 Due.is("law(" + l + ", " + what + ")", bench.law(l, what), due[l][what]);
@@ -754,8 +751,8 @@ public final class EdgesOfCallsTest {
         Due.by("17: Whether RULE r is ABOVE s (1, 0); NONE if one is none such, or a take");
         // RULES 0 rule, 1 bar, 2 take, 3 and 4 rules of a higher LAW.
         StatuteBench bench = behind(EdgesOfCallsTest::told);
-        int[][] due = {{0, 0, NONE, 0, 0}, {0, 0, NONE, 0, 0}, {NONE, NONE, NONE, NONE, NONE}, {1, 1, NONE, 0, 0}, {1,
-            1, NONE, 0, 0}};
+        int[][] due = {{0, 0, NONE, 0, 0}, {0, 0, NONE, 0, 0}, {NONE, NONE, NONE, NONE, NONE},
+            {1, 1, NONE, 0, 0}, {1, 1, NONE, 0, 0}};
         for (int r = 0; r < 5; r++) {
             for (int s = 0; s < 5; s++) {
                 Due.is("above(" + r + ", " + s + ")", bench.above(r, s), due[r][s]);

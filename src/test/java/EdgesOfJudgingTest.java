@@ -448,7 +448,7 @@ public final class EdgesOfJudgingTest {
             + "such that each INSTANCE of a rule for it is DISCARDED or not ABOVE that one");
         String[] rules = {"rule a: x => w; bar b: => not w;", "rule a: x => w; bar b: x => not w;",
             "rule a: if 1 < 0 => w; rule c: x => w; bar b: => not w;",
-                "rule a: x => w; bar b: => not w; bar c: => not w;",
+            "rule a: x => w; bar b: => not w; bar c: => not w;",
             "bar a: x => w; rule c: x => w; bar b: => not w;"};
         int[] plain = {REFUTED, OPEN, REFUTED, REFUTED, REFUTED};
         int[] withOver = {OPEN, OPEN, REFUTED, REFUTED, REFUTED};

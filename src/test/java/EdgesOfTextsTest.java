@@ -89,8 +89,9 @@ public final class EdgesOfTextsTest {
         Due.is("persons of 4,000 bytes", bench.count(0), 2);
         Due.fault(bench, padded("person c;", 4000, "person d"), SYNTAX, 4000);
         Due.is("persons behind a fault", bench.count(0), 2);
-        Due.fault(bench, padded("person c;", 3999, "person d;"), NOTHING, -1);
-        Due.is("persons of both texts", bench.count(0), 4);
+        StatuteBench two = Due.bench(padded("person a;", 4000, "person b;"));
+        Due.fault(two, padded("person c;", 3999, "person d;"), NOTHING, -1);
+        Due.is("persons of both texts", two.count(0), 4);
         StatuteBench longer = new StatuteBench();
         Due.feed(longer, padded("person a;", 4000, "person b;") + "person c;");
         Due.is("bytes of a longer text", longer.count(8), 4000 - 11);
@@ -135,8 +136,8 @@ public final class EdgesOfTextsTest {
                 Due.fault(Due.bench(ALL), ahead + one + "=> w; end", NOTHING, -1);
             } else if (small) {
                 boolean told = b == 'a' || b == 'b';
-                Due.fault(Due.bench(ALL), ahead + " " + one + "=> w; end", told ? 0 : NAME, told ? -1 : ahead.length()
-                    + 1);
+                int place = told ? -1 : ahead.length() + 1;
+                Due.fault(Due.bench(ALL), ahead + " " + one + "=> w; end", told ? NOTHING : NAME, place);
             } else {
                 Due.fault(Due.bench(ALL), ahead + one + "=> w; end", SYNTAX, ahead.length() + (isBlank(b) ? 1 : 0));
             }
@@ -311,8 +312,7 @@ public final class EdgesOfTextsTest {
         Due.by("the text's end: its length");
         String[] tokens = {"person", " a", ";", " word", " w", " 0", ";", " law", " l", " rank", " 1", " from", " 0",
             " until", " 9", ";", " rule", " r", ":", " if", " -", " 1", " <=", " a", ".", " 0", ",", " not", " w",
-                " =>",
-            " w", ";", " end", " over", " r", " q", ";"};
+            " =>", " w", ";", " end", " over", " r", " q", ";"};
         StringBuilder text = new StringBuilder();
         for (int i = 0; i < tokens.length - 1; i++) {
             text.append(tokens[i]);
@@ -325,7 +325,7 @@ public final class EdgesOfTextsTest {
 
     private static void mostTokens() {
         Due.by("2 ROOM: a 1,201st TOKEN");
-        // 19 tokens ahead of the ones, 6 behind them, and one for a minus.
+        // 20 tokens up to the first one, two for each other one, and 6 behind them.
         String head = "person a; word w 0; law l rank 0 from 0; rule r: if -1" + "+1".repeat(587);
         String tail = " < 2 => w; end";
         right(head + tail);
@@ -538,8 +538,7 @@ public final class EdgesOfTextsTest {
         String[] marked = {"rule r: ^x => w;", "rule r: not ^x => w;", "rule r: => ^x;", "rule r: => not ^x;",
             "rule r: v(^x) => w;", "rule r: u(^x, a) => w;", "rule r: u(a, ^x) => w;", "rule r: => v(^x);",
             "rule r: same ^x a => w;", "rule r: same a ^x => w;", "rule r: other ^x a => w;",
-                "rule r: other a ^x => w;",
-            "rule r: if ^x.0 < 1 => w;", "rule r: if 1 < (1 + ^x.0) => w;", "take t: => ^x(a) + 1;",
+            "rule r: other a ^x => w;", "rule r: if ^x.0 < 1 => w;", "rule r: if 1 < (1 + ^x.0) => w;", "take t: => ^x(a) + 1;",
             "take t: => s(^x) + 1;", "take t: => s(a) + ^x.0;", "bar r: => ^x;"};
         for (String rule : marked) {
             wrongRule(rule, NAME);
