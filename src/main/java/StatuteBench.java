@@ -1199,7 +1199,7 @@ public final class StatuteBench {
 
         /** The parts given may have any common divisor, but their lower one is above 0. */
         void become(long newUpper, long newLower) {
-            long divisor = Math.abs(newUpper);
+            long divisor = newUpper < 0 ? -newUpper : newUpper;
             long rest = newLower;
             for (int i = 0; i < MOST_DIVISIONS && rest != 0; i++) {
                 long next = divisor % rest;
@@ -1209,7 +1209,7 @@ public final class StatuteBench {
             boolean sound = divisor > 0 && newLower > 0;
             upper = sound ? newUpper / divisor : 0;
             lower = sound ? newLower / divisor : 1;
-            broken = !sound || Math.abs(upper) > MOST_PART || lower > MOST_PART;
+            broken = !sound || upper > MOST_PART || upper < -MOST_PART || lower > MOST_PART;
         }
 
         void copy(Fraction other) {

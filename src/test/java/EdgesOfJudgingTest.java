@@ -281,6 +281,11 @@ public final class EdgesOfJudgingTest {
         holds("1/100000 * 1/10000 != 0", true);
         holds("1/999999 * 1/1000 != 0", true);
         holds("1/333334 * 1/3000 != 0", false);
+        // 1001 * 999001 is the first number above the most.
+        holds("1/1001 * 1/999001 != 0", false);
+        holds("-1/1001 * 1/999001 != 0", false);
+        holds("1/1001 + 1/999001 != 0", false);
+        holds("7/1001 * 1/999001 != 0", true);
         holds("-1/100000 * 1/10000 < 0", true);
         holds("1/100000 * 1/10001 != 0", false);
         holds("1/31622 + 1/31623 != 0", true);
@@ -664,6 +669,8 @@ public final class EdgesOfJudgingTest {
         sumIs("take t: => s(p) + -" + most + " - 1;", 0, 0, 1);
         sumIs("take t: => s(p) + 1/100000 * 1/10000;", 1, 1000000000, 1);
         sumIs("take t: => s(p) + 1/100000 * 1/10001;", 0, 0, 1);
+        sumIs("take t: => s(p) + 1/1001 * 1/999001;", 0, 0, 1);
+        sumIs("take t: => s(p) + 1/1001; take u: => s(p) * 1/999001;", 0, 0, 2);
         sumIs("take t: => s(p) + p.0 * 1000; take u: => s(p) + 1000;", 1000000000, 1, 2);
         sumIs("take t: => s(p) + p.0 * 1000; take u: => s(p) + 1001;", 0, 0, 2);
         sumIs("take t: => s(p) + 100000; take u: => s(p) * 10000;", 1000000000, 1, 2);
